@@ -210,7 +210,7 @@ public final class OperaGlasses {
     }
 
     public int world(int world, int person) {
-        if (world < 0 || world >= surveyNow().worlds || !house.hasBox(person)) {
+        if (!house.hasBox(person)) {
             return NO_SUCH;
         }
         return survey.boxInWorld(house, world, person);
@@ -800,6 +800,7 @@ public final class OperaGlasses {
             return found;
         }
 
+        /** Returns NO_SUCH if the walk ends before it comes to so many possible worlds. */
         int boxInWorld(House house, int world, int person) {
             int before = 0;
             for (int left = walk.begin(house.boxes); left > 0; left--) {

@@ -215,6 +215,12 @@ public final class ChangesTest {
         due("a teller before a and b", x.tellAll(), OperaGlasses.NO_SUCH);
         due("the pad stays", x.count(9), 11);
         x.wipe();
+        Checks.type(x, "4:0>1,0:0>1");
+        due("the first teller is not here", x.tellAll(), OperaGlasses.NO_SUCH);
+        x.wipe();
+        Checks.type(x, "0:0>4,0:0>1");
+        due("the first b is not here", x.tellAll(), OperaGlasses.BAD_VALUE);
+        x.wipe();
         Checks.type(x, "0:0>1,0:0>4");
         due("b is not here", x.tellAll(), OperaGlasses.BAD_VALUE);
         x.wipe();
@@ -302,6 +308,9 @@ public final class ChangesTest {
         x.undo();
         x.undo();
         due("reveal() undone", x.count(2), 3);
+        x.undo();
+        due("with the first one", x.reveal(), 4);
+        due("the first one is so", x.rumour(0, 4), 1);
     }
 
     private static void doubt() {

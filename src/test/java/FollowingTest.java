@@ -197,6 +197,17 @@ public final class FollowingTest {
         due("without the mirror 54, without the look 9", y.blame(0), 1);
         due("54", y.blame(1), 54);
 
+        OperaGlasses w = contradiction();
+        w.tell(0, OperaGlasses.LOOKS, 1, 0);
+        w.prove(2, true);
+        w.doubt(0);
+        due("open ones are not to blame", w.prove(0, false), 9);
+        w.doubt(0);
+        w.tell(0, OperaGlasses.LOOKS, 0, 3);
+        w.prove(3, true);
+        due("of those that are not open the lowest", w.blame(0), 1);
+        due("worlds then", w.blame(1), 9);
+
         OperaGlasses z = new OperaGlasses();
         for (int box = 1; box <= 3; box++) {
             z.tell(0, OperaGlasses.LOOKS, 0, box);
@@ -220,6 +231,12 @@ public final class FollowingTest {
         x.prove(0, true);
         due("no contradiction", x.blame(0), OperaGlasses.NONE);
         due("no contradiction, its number", x.blame(1), OperaGlasses.NONE);
+        x.open(3);
+        for (int p = 0; p < 3; p++) {
+            x.tell(0, OperaGlasses.LOOKS, p, (p + 1) % 3);
+        }
+        x.reveal();
+        due("one world is no contradiction", x.blame(0), OperaGlasses.NONE);
     }
 
     private static void mostWatched() {

@@ -152,6 +152,18 @@ public final class StandingTest {
         due("certain rumours that are open", x.count(7), 2);
         due("all", x.prove(5, true), 1);
         due("all persons", x.count(6), 3);
+        x.prove(2, true);
+        due("doubt the first", x.doubt(0), 1);
+        due("the first is open too", x.count(2), 3);
+        due("the first is certain too", x.count(7), 2);
+        x.endAct();
+        x.tell(0, OperaGlasses.LOOKS, 0, 1);
+        x.tell(0, OperaGlasses.LOOKS, 0, 2);
+        x.tell(0, OperaGlasses.LOOKS, 2, 1);
+        x.prove(1, true);
+        due("the first is open, and its opposite is certain", x.count(8), 1);
+        x.prove(2, true);
+        due("in few worlds as well", x.count(8), 1);
     }
 
     private static void countInContradiction() {
