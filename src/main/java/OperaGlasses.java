@@ -252,7 +252,8 @@ public final class OperaGlasses {
         if (what != 0 && what != 1) {
             return BAD_VALUE;
         }
-        if (surveyNow().worlds == 0) {
+        survey.findMostWatched(house);
+        if (survey.mostWatchers == 0) {
             return NONE;
         }
         return what == 0 ? survey.mostWatchedPerson : survey.mostWatchers;
@@ -460,7 +461,7 @@ public final class OperaGlasses {
         }
 
         boolean isBrokenIn(int[] boxOf) {
-            return status != OPEN && holdsIn(boxOf) != (status == PROVED);
+            return holdsIn(boxOf) ? status == REFUTED : status == PROVED;
         }
     }
 
@@ -609,9 +610,9 @@ public final class OperaGlasses {
 
         /** Returns the first rumour from an index on that makes a world impossible, or NONE. */
         int firstBroken(int from, int[] boxOf) {
-            for (int i = from; i < told; i++) {
-                Rumour next = rumourAt(i);
-                if (next != null && next.isBrokenIn(boxOf)) {
+            for (int i = Math.max(from, 0); i < told && i < rumours.length; i++) {
+                Rumour next = rumours[i];
+                if (next != null && next.status != OPEN && next.isBrokenIn(boxOf)) {
                     return i;
                 }
             }
@@ -654,7 +655,7 @@ public final class OperaGlasses {
         }
     }
 
-    /** What all possible worlds say together; one walk answers every question but those for one world. */
+    /** What all possible worlds say together; the numbers of take() answer most questions until the next change. */
     private static final class Survey {
         private final Walk walk = new Walk();
         private int worlds;
@@ -681,8 +682,6 @@ public final class OperaGlasses {
 
         private void forget() {
             worlds = 0;
-            mostWatchedPerson = 0;
-            mostWatchers = 0;
             fillRow(looking, 0);
             fillRow(holding, 0);
             fillRow(onlyBroken, 0);
@@ -692,21 +691,12 @@ public final class OperaGlasses {
             worlds++;
             for (int i = 0; i < house.boxes; i++) {
                 addAt(looking, i * MOST_BOXES + at(walk.boxOf, i), 1);
-                tallyWatchers(i);
             }
             for (int i = 0; i < house.told; i++) {
                 Rumour next = house.rumourAt(i);
                 if (next != null && next.holdsIn(walk.boxOf)) {
                     addAt(holding, i, 1);
                 }
-            }
-        }
-
-        private void tallyWatchers(int person) {
-            int found = watchers(walk.boxOf, person);
-            if (found > mostWatchers || found == mostWatchers && person < mostWatchedPerson) {
-                mostWatchers = found;
-                mostWatchedPerson = person;
             }
         }
 
@@ -800,6 +790,27 @@ public final class OperaGlasses {
             return found;
         }
 
+        /** Leaves 0 watchers if no world is possible. */
+        void findMostWatched(House house) {
+            mostWatchedPerson = 0;
+            mostWatchers = 0;
+            for (int left = walk.begin(house.boxes); left > 0; left--) {
+                if (house.firstBroken(0, walk.boxOf) == NONE) {
+                    for (int i = 0; i < house.boxes; i++) {
+                        compareWatchers(i, watchers(walk.boxOf, i));
+                    }
+                }
+                walk.step();
+            }
+        }
+
+        private void compareWatchers(int person, int found) {
+            if (found > mostWatchers || found == mostWatchers && person < mostWatchedPerson) {
+                mostWatchers = found;
+                mostWatchedPerson = person;
+            }
+        }
+
         /** Returns NO_SUCH if the walk ends before it comes to so many possible worlds. */
         int boxInWorld(House house, int world, int person) {
             int before = 0;
@@ -819,9 +830,9 @@ public final class OperaGlasses {
     /** The text that is put together by put(), and the rumours in it. */
     private static final class Pad {
         private static final String SIGNS = ">/=~#*";
-        /** From the first character of a rumour to that of the next: teller, colon, a, sign, b, comma. */
+        /** From the first character of a rumour to that of the next, with the comma. */
         private static final int STRIDE = 6;
-        private static final int A_PLACE = 2, SIGN_PLACE = 3, B_PLACE = 4;
+        private static final int TELLER_PLACE = 0, COLON_PLACE = 1, A_PLACE = 2, SIGN_PLACE = 3, B_PLACE = 4;
 
         private final char[] text = new char[MOST_CHARACTERS];
         private int length;
@@ -853,8 +864,8 @@ public final class OperaGlasses {
         private boolean canStandAt(int index) {
             char character = characterAt(index);
             switch (index % STRIDE) {
-                case 0: return isDigit(character, MOST_BOXES - 1);
-                case 1: return character == ':';
+                case TELLER_PLACE: return isDigit(character, MOST_BOXES - 1);
+                case COLON_PLACE: return character == ':';
                 case A_PLACE: return isDigit(character, MOST_BOXES - 1);
                 case SIGN_PLACE: return SIGNS.indexOf(character) >= 0;
                 case B_PLACE: return canBeB(character, characterAt(index - 2), SIGNS.indexOf(characterAt(index - 1)));
@@ -880,7 +891,7 @@ public final class OperaGlasses {
         }
 
         int tellerOf(int index) {
-            return digitAt(index * STRIDE);
+            return digitAt(index * STRIDE + TELLER_PLACE);
         }
 
         int kindOf(int index) {
