@@ -24,16 +24,6 @@ public final class FollowingTest {
         checks.due(call, got, want);
     }
 
-    /** A house of 4 in which 0 looks at 1 and also at 2. */
-    private static OperaGlasses contradiction() {
-        OperaGlasses x = new OperaGlasses();
-        x.tell(0, OperaGlasses.LOOKS, 0, 1);
-        x.tell(0, OperaGlasses.LOOKS, 0, 2);
-        x.prove(0, true);
-        x.prove(1, true);
-        return x;
-    }
-
     private static void possible() {
         OperaGlasses x = new OperaGlasses();
         x.tell(0, OperaGlasses.MIRROR, 0, 1);
@@ -47,7 +37,7 @@ public final class FollowingTest {
             due("possible(" + wrong + ", 0)", x.possible(wrong, 0), OperaGlasses.NO_SUCH);
             due("possible(0, " + wrong + ")", x.possible(0, wrong), OperaGlasses.NO_SUCH);
         }
-        due("in a contradiction", contradiction().possible(0, 1), 0);
+        due("in a contradiction", Houses.contradiction().possible(0, 1), 0);
         x.open(6);
         due("of six", x.possible(5, 4), 3125);
         due("of six, the own one", x.possible(5, 5), 0);
@@ -68,7 +58,7 @@ public final class FollowingTest {
         for (int wrong : new int[] {-1, 4, MIN, MAX}) {
             due("certain(" + wrong + ")", x.certain(wrong), OperaGlasses.NO_SUCH);
         }
-        due("in a contradiction", contradiction().certain(0), OperaGlasses.NONE);
+        due("in a contradiction", Houses.contradiction().certain(0), OperaGlasses.NONE);
     }
 
     private static void world() {
@@ -100,7 +90,7 @@ public final class FollowingTest {
         x.prove(1, false);
         due("world(0, 1) then", x.world(0, 1), 2);
         due("world(1, 1) then", x.world(1, 1), OperaGlasses.NO_SUCH);
-        due("in a contradiction", contradiction().world(0, 0), OperaGlasses.NO_SUCH);
+        due("in a contradiction", Houses.contradiction().world(0, 0), OperaGlasses.NO_SUCH);
     }
 
     private static void worldOfSix() {
@@ -140,7 +130,7 @@ public final class FollowingTest {
         for (int kind : new int[] {-1, 0, 1, 2, 3, 6, MIN, MAX}) {
             due("alike, kind " + kind, x.ifProved(kind, 1, 1), OperaGlasses.BAD_VALUE);
         }
-        due("in a contradiction", contradiction().ifProved(OperaGlasses.LOOKS, 3, 1), 0);
+        due("in a contradiction", Houses.contradiction().ifProved(OperaGlasses.LOOKS, 3, 1), 0);
         due("it was not told", x.count(1), 1);
     }
 
@@ -171,7 +161,7 @@ public final class FollowingTest {
         due("no rumour", x.sharpest(0), OperaGlasses.NONE);
         due("no rumour, its number", x.sharpest(1), OperaGlasses.NONE);
         due("wrong comes first", x.sharpest(2), OperaGlasses.BAD_VALUE);
-        OperaGlasses y = contradiction();
+        OperaGlasses y = Houses.contradiction();
         due("none is open", y.sharpest(1), OperaGlasses.NONE);
         y.tell(0, OperaGlasses.LOOKS, 1, 2);
         y.tell(0, OperaGlasses.LOOKS, 1, 3);
@@ -180,7 +170,7 @@ public final class FollowingTest {
     }
 
     private static void blame() {
-        OperaGlasses x = contradiction();
+        OperaGlasses x = Houses.contradiction();
         due("of two alike the lower one", x.blame(0), 0);
         due("worlds then", x.blame(1), 27);
         x.tell(0, OperaGlasses.LOOKS, 1, 2);
@@ -197,7 +187,7 @@ public final class FollowingTest {
         due("without the mirror 54, without the look 9", y.blame(0), 1);
         due("54", y.blame(1), 54);
 
-        OperaGlasses w = contradiction();
+        OperaGlasses w = Houses.contradiction();
         w.tell(0, OperaGlasses.LOOKS, 1, 0);
         w.prove(2, true);
         w.doubt(0);
@@ -256,9 +246,9 @@ public final class FollowingTest {
         for (int wrong : new int[] {-1, 2, MIN, MAX}) {
             due("mostWatched(" + wrong + ")", x.mostWatched(wrong), OperaGlasses.BAD_VALUE);
         }
-        due("no world", contradiction().mostWatched(0), OperaGlasses.NONE);
-        due("no world, how many", contradiction().mostWatched(1), OperaGlasses.NONE);
-        due("wrong comes first", contradiction().mostWatched(2), OperaGlasses.BAD_VALUE);
+        due("no world", Houses.contradiction().mostWatched(0), OperaGlasses.NONE);
+        due("no world, how many", Houses.contradiction().mostWatched(1), OperaGlasses.NONE);
+        due("wrong comes first", Houses.contradiction().mostWatched(2), OperaGlasses.BAD_VALUE);
         x.open(6);
         due("of six", x.mostWatched(1), 5);
     }

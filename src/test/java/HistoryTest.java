@@ -22,39 +22,6 @@ public final class HistoryTest {
         checks.due(call, got, want);
     }
 
-    /** All that undo() and restore() bring back, as a text. */
-    private static String stateOf(OperaGlasses x) {
-        StringBuilder text = new StringBuilder();
-        for (int what = 0; what <= 8; what++) {
-            text.append(x.count(what)).append(' ');
-        }
-        for (int p = 0; p < x.count(0); p++) {
-            for (int what = 0; what < 6; what++) {
-                text.append(x.person(p, what)).append(' ');
-            }
-        }
-        for (int r = 0; r < x.count(1); r++) {
-            for (int what = 0; what < 7; what++) {
-                text.append(x.rumour(r, what)).append(' ');
-            }
-        }
-        return text.append(x.sharpest(0)).append(' ').append(x.mostWatched(0)).append(' ').append(x.blame(0)).toString();
-    }
-
-    private static OperaGlasses livelyHouse() {
-        OperaGlasses x = new OperaGlasses();
-        x.tell(0, OperaGlasses.LOOKS, 0, 1);
-        x.endAct();
-        x.tell(0, OperaGlasses.LOOKS, 0, 1);
-        x.tell(1, OperaGlasses.MIRROR, 2, 1);
-        x.tell(2, OperaGlasses.SAME, 2, 1);
-        x.prove(1, false);
-        x.guess(3, 1, 2);
-        x.look(2, 0);
-        Checks.type(x, "0:0>1,3:3*3");
-        return x;
-    }
-
     private static int change(OperaGlasses x, int which) {
         switch (which) {
             case 0: return x.open(6);
@@ -72,21 +39,21 @@ public final class HistoryTest {
 
     private static void undoOfEachChange() {
         for (int which = 0; which < 10; which++) {
-            OperaGlasses x = livelyHouse();
+            OperaGlasses x = Houses.lively();
             x.save(0);
             x.look(1, 0);
             for (int i = 0; i < 6; i++) {
                 x.undo();
             }
             due("nothing to undo", x.undo(), OperaGlasses.NOT_POSSIBLE);
-            OperaGlasses y = livelyHouse();
+            OperaGlasses y = Houses.lively();
             y.save(0);
             y.look(1, 3);
-            String before = stateOf(y);
+            String before = Seen.house(y);
             due("change " + which + " is no error", change(y, which) >= 0 ? 1 : 0, 1);
-            due("change " + which + " is different", stateOf(y).equals(before) ? 1 : 0, 0);
+            due("change " + which + " is different", Seen.house(y).equals(before) ? 1 : 0, 0);
             due("undo of change " + which, y.undo(), 5);
-            due("all is as before change " + which, stateOf(y).equals(before) ? 1 : 0, 1);
+            due("all is as before change " + which, Seen.house(y).equals(before) ? 1 : 0, 1);
         }
     }
 
@@ -160,7 +127,7 @@ public final class HistoryTest {
     }
 
     private static void save() {
-        OperaGlasses x = livelyHouse();
+        OperaGlasses x = Houses.lively();
         int changes = x.count(10);
         due("save(0)", x.save(0), 3);
         due("is no change", x.count(10), changes);
@@ -185,9 +152,9 @@ public final class HistoryTest {
     }
 
     private static void restore() {
-        OperaGlasses x = livelyHouse();
+        OperaGlasses x = Houses.lively();
         x.save(1);
-        String saved = stateOf(x);
+        String saved = Seen.house(x);
         x.doubt(1);
         x.look(0, 2);
         x.open(6);
@@ -195,13 +162,13 @@ public final class HistoryTest {
         x.prove(0, true);
         x.guess(1, 5, 0);
         x.wipe();
-        String before = stateOf(x);
+        String before = Seen.house(x);
         due("restore(1)", x.restore(1), 3);
-        due("all is as saved", stateOf(x).equals(saved) ? 1 : 0, 1);
+        due("all is as saved", Seen.house(x).equals(saved) ? 1 : 0, 1);
         due("the pad is not", x.count(9), 0);
         due("the history is not", x.count(10), 6);
         due("undo()", x.undo(), 5);
-        due("all is as before", stateOf(x).equals(before) ? 1 : 0, 1);
+        due("all is as before", Seen.house(x).equals(before) ? 1 : 0, 1);
     }
 
     private static void restoreErrors() {

@@ -1,17 +1,20 @@
 /** Long runs of calls, the same ones every time, on the class and on the plain model side by side. */
 public final class ModelRunsTest {
-    private static final int RUNS = 240, CALLS = 512;
+    private static final int RUNS = 300;
+    /** The calls that one step can take: a text of 60 characters is put in 8, told, and looked at. */
+    private static final int LONGEST_STEP = 10;
+    private static final int FULL_AT = 430;
     private static final String SIGNS = ">/=~#*";
 
-    private final Checks checks;
     private final int run;
-    private final OperaGlasses house = new OperaGlasses();
-    private final PlainModel model = new PlainModel();
+    private final Both both;
+    private final PlainModel model;
     private long seed;
 
     private ModelRunsTest(Checks checks, int run) {
-        this.checks = checks;
         this.run = run;
+        this.both = new Both(checks, "run " + run);
+        this.model = both.model();
         this.seed = run * 7919L + 17;
     }
 
@@ -29,19 +32,19 @@ public final class ModelRunsTest {
         return (int) ((seed >>> 33) % below);
     }
 
-    private void due(String call, int got, int want) {
-        checks.due("run " + run + ": " + call, got, want);
-    }
-
     private void play() {
         // The greatest house is rare, as the model takes its time over 15,625 worlds.
-        int boxes = run % 12 == 0 ? 6 : 3 + run % 3;
-        due("open", house.open(boxes), model.open(boxes));
-        for (int i = 0; i < CALLS - 1; i++) {
-            if (run % 2 == 0 && i == 40) {
+        both.open(run % 12 == 0 ? 6 : 3 + run % 3);
+        boolean filled = run % 2 == 1;
+        while (both.left() >= LONGEST_STEP) {
+            if (!filled && both.left() < FULL_AT) {
                 fillUp();
+                filled = true;
             }
-            next();
+            step();
+        }
+        while (both.left() > 0) {
+            question(pick(51) + 49);
         }
     }
 
@@ -52,7 +55,7 @@ public final class ModelRunsTest {
         }
     }
 
-    private void next() {
+    private void step() {
         int which = pick(100);
         if (which < 34) {
             change(which);
@@ -82,54 +85,43 @@ public final class ModelRunsTest {
     private void tell() {
         int teller = box(), kind = what(6), a = box();
         int b = kind == 4 ? pick(pick(8) == 0 ? 9 : 3) : box();
-        due("tell(" + teller + ", " + kind + ", " + a + ", " + b + ")",
-            house.tell(teller, kind, a, b), model.tell(teller, kind, a, b));
+        both.tell(teller, kind, a, b);
     }
 
     private void change(int which) {
         int p = box(), q = box(), r = told();
         if (which < 1 && pick(3) == 0) {
-            int boxes = pick(run % 12 == 0 ? 5 : 4) + 2;
-            due("open(" + boxes + ")", house.open(boxes), model.open(boxes));
+            both.open(pick(run % 12 == 0 ? 5 : 4) + 2);
         } else if (which < 5) {
-            due("look(" + p + ", " + q + ")", house.look(p, q), model.look(p, q));
+            both.look(p, q);
         } else if (which < 17) {
             tell();
         } else if (which < 23) {
-            boolean isSo = pick(3) > 0 ? model.rumour(r, 5) == 1 : pick(2) == 0;
-            due("prove(" + r + ", " + isSo + ")", house.prove(r, isSo), model.prove(r, isSo));
+            both.prove(r, pick(3) > 0 ? model.rumour(r, 5) == 1 : pick(2) == 0);
         } else if (which < 24) {
-            due("reveal()", house.reveal(), model.reveal());
+            both.reveal();
         } else if (which < 28) {
-            due("doubt(" + r + ")", house.doubt(r), model.doubt(r));
+            both.doubt(r);
         } else if (which < 32) {
-            int box = pick(2) == 0 ? model.person(q, 0) : box();
-            due("guess(" + p + ", " + q + ", " + box + ")", house.guess(p, q, box), model.guess(p, q, box));
+            both.guess(p, q, pick(2) == 0 ? model.person(q, 0) : box());
         } else if (which < 33) {
-            due("tellAll()", house.tellAll(), model.tellAll());
+            both.tellAll();
         } else if (pick(3) == 0) {
-            due("endAct()", house.endAct(), model.endAct());
+            both.endAct();
         }
     }
 
     private void text() {
         int which = pick(10);
         if (which < 5) {
-            String text = someText();
-            for (int i = 0; i < text.length(); i += 8) {
-                put(Checks.packed(text.substring(i, Math.min(i + 8, text.length()))));
-            }
-            due("tellAll()", house.tellAll(), model.tellAll());
+            both.type(someText());
+            both.tellAll();
         } else if (which < 6) {
-            put(((long) pick(Integer.MAX_VALUE) << 32 | pick(Integer.MAX_VALUE)) >>> 8 * pick(8));
+            both.put(((long) pick(Integer.MAX_VALUE) << 32 | pick(Integer.MAX_VALUE)) >>> 8 * pick(8));
         } else if (which < 8) {
-            due("wipe()", house.wipe(), model.wipe());
+            both.wipe();
         }
-        due("fault()", house.fault(), model.fault());
-    }
-
-    private void put(long characters) {
-        due("put(" + characters + ")", house.put(characters), model.put(characters));
+        both.fault();
     }
 
     private String someText() {
@@ -149,33 +141,28 @@ public final class ModelRunsTest {
     private void saving() {
         int slot = what(2);
         switch (pick(4)) {
-            case 0 -> due("save(" + slot + ")", house.save(slot), model.save(slot));
-            case 1 -> due("restore(" + slot + ")", house.restore(slot), model.restore(slot));
-            default -> due("undo()", house.undo(), model.undo());
+            case 0 -> both.save(slot);
+            case 1 -> both.restore(slot);
+            default -> both.undo();
         }
     }
 
     private void question(int which) {
         int p = box(), q = box(), r = told();
         if (which < 55) {
-            int what = what(6);
-            due("person(" + p + ", " + what + ")", house.person(p, what), model.person(p, what));
+            both.person(p, what(6));
         } else if (which < 63) {
-            int what = what(7);
-            due("rumour(" + r + ", " + what + ")", house.rumour(r, what), model.rumour(r, what));
+            both.rumour(r, what(7));
         } else if (which < 74) {
-            int what = what(11);
-            due("count(" + what + ")", house.count(what), model.count(what));
+            both.count(what(11));
         } else if (which < 78) {
-            due("possible(" + p + ", " + q + ")", house.possible(p, q), model.possible(p, q));
+            both.possible(p, q);
         } else if (which < 82) {
-            due("certain(" + p + ")", house.certain(p), model.certain(p));
+            both.certain(p);
         } else if (which < 86) {
-            int world = pick(Math.max(1, model.count(3))) + pick(2);
-            due("world(" + world + ", " + p + ")", house.world(world, p), model.world(world, p));
+            both.world(pick(Math.max(1, model.count(3))) + pick(2), p);
         } else if (which < 90) {
-            int kind = what(6);
-            due("ifProved(" + kind + ", " + p + ", " + q + ")", house.ifProved(kind, p, q), model.ifProved(kind, p, q));
+            both.ifProved(what(6), p, q);
         } else {
             best(which, what(2));
         }
@@ -183,11 +170,11 @@ public final class ModelRunsTest {
 
     private void best(int which, int what) {
         if (which < 94) {
-            due("sharpest(" + what + ")", house.sharpest(what), model.sharpest(what));
+            both.sharpest(what);
         } else if (which < 97) {
-            due("blame(" + what + ")", house.blame(what), model.blame(what));
+            both.blame(what);
         } else {
-            due("mostWatched(" + what + ")", house.mostWatched(what), model.mostWatched(what));
+            both.mostWatched(what);
         }
     }
 }
